@@ -99,6 +99,11 @@ public final class DaysOnTest {
             x.fills(dip, 0);
         }
         Check.due("all dips, none has GRAINS", 0, x.ends(-1));
+        for (int dip = 0; dip < 10; dip++) {
+            x.fills(dip, 1);
+            Check.due("all dips but " + dip + ", when he comes there", dip + 1, x.ends(-1));
+            x.fills(dip, 0);
+        }
         x = Check.of("c0090;w5;");
         for (int dip = 0; dip < 10; dip++) {
             x.fills(dip, dip == 9 ? 10 : dip == 8 ? 15 : 0);
@@ -142,6 +147,7 @@ public final class DaysOnTest {
         Check.due("line(0)", 27, x.line(0));
         Check.due("line(10)", 37, x.line(10));
         Check.due("line(60), when they met", 56, x.line(60));
+        Check.due("of six", 18, Check.of("c0000;c0010;c0000;c0091;c0081;c0091;").line(0));
         Check.due("of WAY 0 alone", 59, Check.of("c0050;").line(0));
         Check.due("of WAY 1 alone", 5, Check.of("c0051;").line(0));
         for (int n : NO_DAYS_ON) {
@@ -157,6 +163,8 @@ public final class DaysOnTest {
         Check.due("treaty(1)", 10 - 11 - 12, x.treaty(1));
         x.days(1);
         Check.due("treaty(0)", -13, x.treaty(0));
+        Check.due("of six", 10 - 11 + 12 - 13 + 14 - 15,
+            Check.of("c0000;c0191;c0210;c0381;c0420;c0571;").treaty(1));
         x.rests(3);
         Check.due("treaty(2)", -13 + 2 * (10 - 11 - 12 + 13), x.treaty(2));
         for (int n : NO_DAYS_ON) {

@@ -350,6 +350,8 @@ public final class DesertAsToldTest {
         }
         DesertIsCounted guesser = Check.of("c2990;g9000;d01;");
         Check.due("a GUESSER who counts nothing writes nothing", 0, guesser.count(4));
+        DesertIsCounted one = Check.of("c2990;g9001;d01;");
+        Check.due("a GUESSER who counts 1 writes FIGURE, too", 10, one.count(4));
         DesertIsCounted sleeper = Check.of("c6990;g9001;d02;");
         Check.due("a SLEEPER who counts 1 writes nothing", 0, sleeper.count(4));
         Check.due("but it is DONE", 1, sleeper.dip(9, 1));

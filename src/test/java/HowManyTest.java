@@ -162,6 +162,14 @@ public final class HowManyTest {
         twoDue("c0100;c5091;g9999;", 1);
         twoDue("c5000;g0999;c0291;", 11);
         twoDue("c5000;g0999;c0191;", 10);
+        // 12 on 4 DAYS and the 8 that are left are 56: 1 more than that; 55 are not more.
+        twoDue("c0290;g9056;c5000;g0999;", 11);
+        twoDue("c0290;g9055;c5000;g0999;", 1);
+        twoDue("c5000;g0999;c0290;g9056;", 11);
+        twoDue("c5000;g0999;c0290;g9055;", 10);
+        // 15 on 5 DAYS are as many as writing is; with FIGURE 6 the 76 that are there are 1 more.
+        twoDue("c0690;g9075;c7000;", 0);
+        twoDue("c0690;g9076;c7000;", 10);
         twoDue("c0200;c5091;g9999;r0;r1;", 11);
         twoDue("c5000;g0999;c7091;d01;f;", 10);
         twoDue("c5000;g0999;c7091;d01;g0999;", 10);

@@ -70,6 +70,10 @@ public final class ImageTest {
         }
         x.blows(-9);
         Check.due("count(6)", 0, x.count(6));
+        DesertIsCounted ends = Check.of("c0000;c0190;g0200;g9300;d01;");
+        Check.due("all GRAINS, the first and the last, too", 1300, ends.count(2));
+        Check.due("all DONE, the first and the last, too", 21, ends.count(3));
+        Check.due("all BOOKS, the first and the last, too", 21, ends.count(4));
         for (int what : new int[] {-1, 7, Integer.MIN_VALUE, Integer.MAX_VALUE}) {
             Check.due("count(" + what + ")", -1, x.count(what));
         }

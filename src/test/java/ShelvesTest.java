@@ -181,6 +181,10 @@ public final class ShelvesTest {
         Check.due("from nothing to a CORPORAL: nothing is told first", -11, x.copy(5, 0, 4, 0, -1));
         Check.due("from a CORPORAL", -12, x.copy(4, 0, 0, 0, 1));
         Check.due("to a CORPORAL", -12, x.copy(0, 0, 4, 0, 1));
+        x.row(6, 1, 3);
+        x.keep(6, 1, 0, 0);
+        Check.due("from a CORPORAL where shorts were", -12, x.copy(6, 0, 0, 0, 1));
+        Check.due("to a CORPORAL where shorts were", -12, x.copy(0, 0, 6, 0, 1));
         Check.due("from a CORPORAL to one", -12, x.copy(4, 0, 4, 0, 1));
         Check.due("shorts to bytes, told ahead of the place", -12, x.copy(0, 9, 2, 0, 1));
         Check.due("shorts to ints, told ahead of the size", -12, x.copy(0, 0, 3, 0, -1));

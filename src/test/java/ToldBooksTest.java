@@ -94,6 +94,8 @@ public final class ToldBooksTest {
         Check.due("no GRAINS in one", 1, x.deserts(1, 0, 0));
         Check.due("nor in the next desert", 1, x.deserts(2, 0, 0));
         Check.due("none without", 0, x.deserts(1, 7, 0));
+        Check.due("in 200 draws", 1, x.deserts(20, 1, 0));
+        Check.due("in 200 other draws", 3, x.deserts(20, 9, 0));
         Check.due("no BOOKS", 0, x.deserts(20, 7, 1));
         for (int bad : new int[] {0, 21, -1, Integer.MIN_VALUE, Integer.MAX_VALUE}) {
             Check.due("deserts(" + bad + ", 1, 0)", -1, x.deserts(bad, 1, 0));
