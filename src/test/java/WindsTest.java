@@ -107,6 +107,9 @@ public final class WindsTest {
         Check.due("behind no DAYS", 0, x.slowest(0));
         x.rests(2);
         Check.due("who RESTS", 2, x.slowest(1));
+        x = withGrains("c5000;", 0, 999, 1, 999, 2, 999, 3, 999, 4, 999, 5, 999, 6, 999);
+        Check.due("BOOK of the one who grows most of all", 9999, x.corporalThen(0, 60, 1));
+        Check.due("he is slowest, alone", 0, x.slowest(60));
         x = Check.of("c0010;c5000;g9000;d01;");
         x.moves(1, 9);
         Check.due("by what has grown, not by what is in it", 1, x.slowest(1));
