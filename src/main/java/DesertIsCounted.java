@@ -468,21 +468,22 @@ public final class DesertIsCounted {
         if (told == null || refusal != 0) {
             return refusal;
         }
-        int kinds = 0;
-        int figures = 0;
+        int bits = 0;
         int days = told.behindLastTold();
-        for (int kind = 0; kind < KINDS; kind++) {
-            for (int figure = 0; figure < FIGURES; figure++) {
-                mind.becomes(now);
-                mind.kind[c] = kind;
-                mind.figure[c] = figure;
-                if (isBookInMindAsTold(told, days, c)) {
-                    kinds |= 1 << kind;
-                    figures |= 1 << figure;
-                }
+        // The one that is not asked for stays what it is now.
+        int number = what == 0 ? KINDS : FIGURES;
+        for (int other = 0; other < number; other++) {
+            mind.becomes(now);
+            if (what == 0) {
+                mind.kind[c] = other;
+            } else {
+                mind.figure[c] = other;
+            }
+            if (isBookInMindAsTold(told, days, c)) {
+                bits |= 1 << other;
             }
         }
-        return what == 0 ? kinds : figures;
+        return bits;
     }
 
     public int two(int a, int b) {

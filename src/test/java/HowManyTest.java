@@ -8,6 +8,7 @@ public final class HowManyTest {
         howMany();
         howManySkips();
         whatIs();
+        whatIsOfEachKind();
         refusalsByRows();
         two();
         twoTogether();
@@ -92,9 +93,10 @@ public final class HowManyTest {
     private static void whatIs() {
         Check.promise(29, "whatIs");
         DesertIsCounted x = Check.of("c0500;");
-        int[] books = {13, 100, 0, 10, 55, 5, 60, 1};
-        int[] kinds = {1 + 2, 32, 64, 1 + 2 + 16 + 128, 4, 8 + 16 + 128, 0, 128};
-        int[] figures = {8 + 16, 1023, 1023, 1 + 2 + 512, 32, 1 + 2 + 16, 0, 1};
+        // KINDS are told of one with FIGURE 5, FIGURES of a CORPORAL.
+        int[] books = {15, 14, 13, 100, 0, 10, 19, 55, 7, 8, 6, 5, 60, 1};
+        int[] kinds = {1, 2, 0, 32, 64, 0, 0, 4, 8, 16, 128, 0, 0, 0};
+        int[] figures = {32, 16, 8, 0, 0, 1, 512, 0, 0, 0, 0, 0, 0, 0};
         for (int i = 0; i < books.length; i++) {
             Check.tell(x, 0, 1, 0, books[i]);
             whatIsDue(x, "0, " + books[i], kinds[i], figures[i]);
@@ -107,15 +109,46 @@ public final class HowManyTest {
         whatIsDue(x, "nothing", 255, 1023);
         Check.tell(x, 0, 1, LEAST_SHORT, LEAST_SHORT, LEAST_SHORT);
         whatIsDue(x, "all skipped", 255, 1023);
-        Check.tell(x, 0, 0, -128, 13);
-        whatIsDue(x, "a byte skipped", 3, 24);
+        Check.tell(x, 0, 0, -128, 14);
+        whatIsDue(x, "a byte skipped", 2, 16);
         Check.tell(x, 0, 2, LEAST_INT, -128);
         whatIsDue(x, "no int skipped", 0, 0);
-        Check.tell(x, 0, 1, 0, LEAST_SHORT, 9 + 3 + 9 + 3);
-        whatIsDue(x, "two DAYS by 12", 1 + 2, 4 + 8);
+        Check.tell(x, 0, 1, 0, LEAST_SHORT, 14 + 14);
+        whatIsDue(x, "two DAYS by 14", 2, 16);
+        Check.due("of whom it was told, his KIND is as it was", 0, x.corporal(0, 0));
+        Check.due("of whom it was told, his FIGURE is as it was", 5, x.corporal(0, 1));
         x.rests(0);
         Check.tell(x, 0, 1, 0, 0, 0);
         whatIsDue(x, "who RESTS", 255, 1023);
+    }
+
+    private static void whatIsOf(String desert, int kinds, int figures, int... told) {
+        DesertIsCounted x = Check.of(desert);
+        Check.tell(x, 0, 1, told);
+        whatIsDue(x, desert, kinds, figures);
+    }
+
+    /** FIGURES are told of him as he is, of his own KIND; KINDS of him with his own FIGURE. */
+    private static void whatIsOfEachKind() {
+        Check.promise(29, "whatIs, of each KIND");
+        whatIsOf("c0000;", 64, 0, 0, 0);
+        whatIsOf("c1000;", 1, 2, 0, 10);
+        whatIsOf("c2300;", 0, 32, 0, 55);
+        whatIsOf("c3400;", 8 + 16, 16 + 32, 0, 7);
+        whatIsOf("c4000;", 8 + 16, 1, 0, 5);
+        whatIsOf("c5700;", 32, 1023, 0, 100);
+        whatIsOf("c6400;", 64, 16 + 32, 0, 0, 6);
+        whatIsOf("c7900;", 0, 1, 0, 1);
+        // Behind DAYS he has 10 and FIGURE a DAY ahead of what is told from now on.
+        whatIsOf("c0500;d02;", 1, 32, 30, 45);
+        whatIsOf("c0500;d02;", 255, 1023, 30);
+        whatIsOf("g0012;c0000;c0401;", 1, 1, 0, 10);
+        whatIsOf("g0012;c0000;c0401;", 0, 1023 - 1 - 2, 0, 12);
+        // What the first one counts there is not left for the second.
+        DesertIsCounted x = Check.of("g0012;c0000;c0401;");
+        Check.tell(x, 0, 1, 0, 2);
+        Check.due("KINDS of the second", 1 + 2 + 8 + 16 + 128, x.whatIs(0, 1, 0));
+        Check.due("FIGURES of the second", 1023, x.whatIs(0, 1, 1));
     }
 
     private static void refusalsByRows() {

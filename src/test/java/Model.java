@@ -710,11 +710,12 @@ final class Model {
             return refusal;
         }
         int bits = 0;
-        for (int i = 0; i < 80; i++) {
+        for (int i = 0; i < (what == 0 ? 8 : 10); i++) {
             Land other = land.twin();
-            other.corporals.set(c, other.corporals.get(c).as(i / 10, i % 10));
+            Corporal he = other.corporals.get(c);
+            other.corporals.set(c, what == 0 ? he.as(i, he.figure) : he.as(he.kind, i));
             if (((Row) shelves[d]).firstWrong(other, on -> on.corporals.get(c).book) == -4) {
-                bits |= 1 << (what == 0 ? i / 10 : i % 10);
+                bits |= 1 << i;
             }
         }
         return bits;
