@@ -9,12 +9,23 @@ import java.util.TreeSet;
 
 /** What can be seen of LANGUAGE.md in the compiled class: its library (rule 4), its size (rule 11), its room (rule 12). */
 public final class LanguageTest {
+    /** Rule 4 and rule 6, and what the compiler itself calls for enums and records. */
     private static final Set<String> LIBRARY = Set.of(
-        "java/lang/Object.<init>", "java/lang/Math.abs", "java/lang/Math.max", "java/lang/Math.min",
-        "java/lang/Integer.bitCount", "java/lang/System.arraycopy", "java/util/Arrays.fill",
-        "java/lang/IllegalArgumentException.<init>", "java/lang/IllegalStateException.<init>");
+        "java/lang/Object.<init>", "java/lang/Record.<init>", "java/lang/Enum.<init>", "java/lang/Enum.valueOf",
+        "java/lang/Enum.ordinal", "java/lang/System.arraycopy", "java/util/Arrays.copyOf", "java/util/Arrays.copyOfRange",
+        "java/util/Arrays.fill", "java/lang/Integer.valueOf", "java/lang/Integer.intValue", "java/util/Iterator.hasNext",
+        "java/util/Iterator.next", "java/lang/Iterable.iterator", "java/lang/Comparable.compareTo");
+    private static final String TEXTS = "java/lang/(String\\.(<init>|length|charAt|isEmpty|equals|indexOf|substring|toCharArray)"
+        + "|StringBuilder\\.(<init>|append|charAt|setCharAt|setLength|deleteCharAt|reverse|length|toString))";
+    private static final String LISTS =
+        "java/util/(ArrayList|List)\\.(<init>|add|get|set|remove|size|isEmpty|clear|iterator|of)";
+    private static final String NUMBERS = "java/lang/(Math|Integer|Long)\\.(abs|max|min|compare|bitCount|floorDiv|floorMod|signum"
+        + "|sum|numberOf(Leading|Trailing)Zeros|highestOneBit|lowestOneBit|rotateLeft|rotateRight|reverse)";
+    private static final String EXCEPTIONS = "java/(lang/(IllegalState|IllegalArgument|IndexOutOfBounds|Arithmetic"
+        + "|UnsupportedOperation|Runtime)|util/NoSuchElement)Exception\\.<init>";
     private static final int CALLS = 512;
-    private static final long ROOM_OF_A_RUN = 200_000;
+    /** Some 600,000 objects, of 32 bytes each. */
+    private static final long ROOM_OF_A_RUN = 600_000 * 32;
 
     private final List<Object> pool = new ArrayList<>();
 
@@ -31,7 +42,7 @@ public final class LanguageTest {
         long before = allocated();
         runOf(CALLS);
         long room = allocated() - before;
-        Check.due("bytes in one run are few (" + room + ")", 1, room < ROOM_OF_A_RUN ? 1 : 0);
+        Check.due("bytes in one run (" + room + ") have room", 1, room < ROOM_OF_A_RUN ? 1 : 0);
         Check.end();
     }
 
@@ -80,7 +91,7 @@ public final class LanguageTest {
             if (entry instanceof int[] link) {
                 String owner = nameOfClass(link[0]);
                 String name = owner + "." + nameOf(link[1]);
-                if (!owner.startsWith("DesertIsCounted") && !LIBRARY.contains(name)) {
+                if (!owner.startsWith("DesertIsCounted") && !name.matches("\\[.*\\.clone") && !isOfTheLibrary(name)) {
                     strangers.add(name);
                 }
             } else if ("a call linked when it runs".equals(entry)) {
@@ -88,6 +99,11 @@ public final class LanguageTest {
             }
         }
         return strangers;
+    }
+
+    private static boolean isOfTheLibrary(String name) {
+        return LIBRARY.contains(name) || name.matches(TEXTS) || name.matches(LISTS) || name.matches(NUMBERS)
+            || name.matches(EXCEPTIONS);
     }
 
     private String nameOfClass(int place) {
