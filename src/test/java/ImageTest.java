@@ -9,21 +9,30 @@ public final class ImageTest {
 
     private static void imageAndRestore() {
         Check.promise(36, "image, and 37, restore");
-        DesertIsCounted x = new DesertIsCounted();
-        Check.due("restore() ahead of image()", -3, x.restore());
-        Check.write(x, 0, "c2300;c5491;c6550;w3;d05;r1;g4007;");
-        x.desert(0);
+        DesertIsCounted x = told();
         String before = Check.all(x);
         Check.due("image()", 5, x.image());
         Check.due("all stays", before, Check.all(x));
         changeAll(x);
         Check.due("restore()", 5, x.restore());
         Check.due("all is as it was", before, Check.all(x));
+        x = told();
+        x.image();
+        changeAll(x);
+        x.restore();
         Check.due("and goes on as it did", 0, x.rests(1));
         x.days(60);
         Check.due("restore() again", 5, x.restore());
         Check.due("all is as it was", before, Check.all(x));
         Check.due("a refused restore() changes nothing", -3, new DesertIsCounted().restore());
+    }
+
+    private static DesertIsCounted told() {
+        DesertIsCounted x = new DesertIsCounted();
+        Check.due("restore() ahead of image()", -3, x.restore());
+        Check.write(x, 0, "c2300;c5491;c6550;w3;d05;r1;g4007;");
+        x.desert(0);
+        return x;
     }
 
     /** Each part of the desert, but no shelf. */
