@@ -224,6 +224,11 @@ final class EdgesOfWinds {
         // Where they are now, whoever of them RESTS.
         Run x = new Run().does("keep(0, 1, 0, 0)", "comes(0, 5, 0)").due("pairs()", 0).does("comes(0, 9, 1)").due("pairs()", 0);
         x.does("moves(1, 8)").due("pairs()", 1).does("moves(0, 4)").due("pairs()", 0).does("moves(1, 1)").due("pairs()", 1);
+        for (String first : new String[] {"1", "4"}) {
+            String second = first.equals("1") ? "4" : "1";
+            new Run().does("keep(0, 1, 0, 0)", "comes(0, 4, 0)", "comes(0, 7, 0)", "comes(0, " + first + ", 1)",
+                "comes(0, " + second + ", 1)").due("pairs()", 2);
+        }
         x.does("rests(0)").due("pairs()", 1).does("comes(0, 1, 1)").due("pairs()", 1).does("comes(0, 1, 0)").due("pairs()", 2);
     }
 
