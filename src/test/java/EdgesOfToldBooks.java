@@ -223,6 +223,10 @@ final class EdgesOfToldBooks {
             x.due("restore()", 5).does("keep(6, 0, 0, 0)", "keep(7, 0, 0, 0)");
             Check.due("all behind " + change + " and restore()", before, x.all());
         }
+        for (int wind = -9; wind <= 9; wind++) {
+            new Run().does("blows(" + wind + ")", "image()", "blows(" + (wind == 0 ? 1 : -wind) + ")").due("restore()", 0)
+                .due("count(6)", wind + 9);
+        }
         // It stays THE IMAGE, whatever becomes of what was RESTORED.
         Run x = Run.of(FULL).does("image()", "restore()", "days(9)", "flood()").due("restore()", 5);
         Check.due("all, RESTORED again", before, x.all());
