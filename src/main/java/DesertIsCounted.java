@@ -79,7 +79,8 @@ public final class DesertIsCounted {
         // The statements go on the desert in mind, since with a fault none of them may come.
         mind.becomes(now);
         int statements = 0;
-        for (int place = 0; place < text.size; place += Text.lengthOfStatement(text, place)) {
+        // A statement has a letter and a ";" at least, so it can be seen here that this ends.
+        for (int place = 0; place < text.size; place += Math.max(2, Text.lengthOfStatement(text, place))) {
             if (!Text.isDoneOn(mind, text, place)) {
                 return FAULT_OF_STATEMENT - place;
             }
@@ -1208,9 +1209,9 @@ public final class DesertIsCounted {
             return -1;
         }
 
-        /** With its letter and the ";" behind it, so 2 at least. */
+        /** With its letter and the ";" behind it. */
         static int lengthOfStatement(Shelf text, int place) {
-            return 2 + Math.max(0, digitsBehind(byteAt(text, place)));
+            return 2 + digitsBehind(byteAt(text, place));
         }
 
         /** False, and nothing is done, if the statement is not as it must be. */
